@@ -235,6 +235,9 @@ public final class PromisesTest {
         due("tide(5, 1000)", x.tide(5, 1000), 7);
         due("tide(1, 1)", x.tide(1, 1), 12);
         due("tide(2, 3)", x.tide(2, 3), 7);
+        // 7 times 19 is 13 modulo 24, 7 times 5 is 11.
+        due("tide(0, 19)", x.tide(0, 19), 11);
+        due("tide(0, 5)", x.tide(0, 5), 11);
         x.row(0, 3);
         x.put(0, 0, 20);
         x.put(0, 2, 7);
@@ -528,6 +531,18 @@ public final class PromisesTest {
         due("word 60, not behind", x.word(3, 1, 3), -4);
         due("word 60, nobody", x.word(3, 1, 6), -1);
         due("count(4)", x.count(4), 60);
+        // With 60 words none of which names the cove, nobody gets the informer's part.
+        x.price(10);
+        x.law(0, 50, 1);
+        guardAll(x, 1);
+        loadedBoat(x, 0, 1);
+        due("nights(1)", x.nights(1), 1);
+        due("lotOf(0, 3)", x.lotOf(0, 3), 0);
+        due("the word of informer 0 named that cove", x.coins(2), 5);
+        x.load(0, 1);
+        due("nights(1)", x.nights(1), 1);
+        due("lotOf(1, 3)", x.lotOf(1, 3), 2);
+        due("coins(1)", x.coins(1), 5 + 10);
         // The first one told gets the informer's part, each lot by itself.
         x = new CoastWatch();
         x.price(7);
@@ -706,6 +721,11 @@ public final class PromisesTest {
         due("boatOf(7, 2)", x.boatOf(7, 2), 0);
         due("boatOf(7, 3)", x.boatOf(7, 3), 0);
         due("lotOf(99, 0)", x.lotOf(99, 0), 3);
+        due("landed(0, 2)", x.landed(0, 2), 100);
+        due("landed(0, 3)", x.landed(0, 3), 0);
+        x.word(0, 19, 5);
+        due("nights(1)", x.nights(1), 0);
+        due("a word is wrong", x.count(6), 1);
         due("lotOf(100, 0)", x.lotOf(100, 0), -1);
         due("search(0)", x.search(0), 100);
     }
@@ -780,6 +800,43 @@ public final class PromisesTest {
         due("best(12), not one without a guess", x.best(12), 14);
         due("best(100)", x.best(100), 14);
         due("GUESS stays", x.hideOf(1, 1), 20);
+        // The fewest, though it is the greater number; hide 0 is in sets as well; less after a search.
+        x = new CoastWatch();
+        x.hide(0, 60, 3);
+        x.hide(0, 60, 3);
+        x.hide(1, 60, 6);
+        loadedBoat(x, 0, 1);
+        x.word(0, 1, 0);
+        x.word(0, 2, 1);
+        x.word(1, 2, 1);
+        x.nights(1);
+        x.cove(1, 3, 99);
+        x.load(0, 1);
+        x.nights(1);
+        due("GUESS of 0", x.hideOf(0, 1), 10);
+        due("GUESS of 1", x.hideOf(1, 1), 10);
+        due("GUESS of 2", x.hideOf(2, 1), 20);
+        due("best(3)", x.best(3), 1);
+        due("best(6)", x.best(6), 4);
+        due("best(9)", x.best(9), 5);
+        due("best(12)", x.best(12), 7);
+        x.search(2);
+        due("best(6) after a search", x.best(6), 3);
+        due("best(9) after a search", x.best(9), 3);
+        for (int i = 0; i < 6; i++) {
+            x.search(2);
+        }
+        due("best(12) of what is left", x.best(12), 3);
+        // All twelve.
+        x = new CoastWatch();
+        for (int h = 0; h < 12; h++) {
+            x.hide(0, 60, 8);
+        }
+        loadedBoat(x, 0, 1);
+        x.word(0, 1, 0);
+        x.nights(1);
+        due("best(100) of twelve", x.best(100), 4095);
+        due("best(95) of twelve", x.best(95), 2047);
     }
 
     private static void belief() {
@@ -854,7 +911,9 @@ public final class PromisesTest {
         x.word(0, 1, 0);
         x.nights(1);
         due("count(6)", x.count(6), 1);
+        due("count(5)", x.count(5), 0);
         due("weight(0, 1)", x.weight(0, 1), 3);
+        due("belief of the first word", x.belief(0, 1, 1), 3);
     }
 
     private static void value() {
@@ -880,6 +939,30 @@ public final class PromisesTest {
         }
         due("value(1, 10, 0)", x.value(1, 10, 0), 40);
         due("value(1, 10, 1)", x.value(1, 10, 1), 1);
+        // Two, four, five and six coves watched, whatever the order of their worths.
+        int[] worths = {5, 80, 40, 20, 10, 90};
+        long[] above = {90, 7191, 6608814, 148926891, 893685579, 99740115, -3};
+        long[] below = {1, 176, 341759, 16519825, 231401783, 231401783, 1};
+        for (int turn = 0; turn < 6; turn++) {
+            for (int c = 0; c < 6; c++) {
+                x.cove((c + turn) % 6, 3, worths[c]);
+            }
+            for (int k = 0; k <= 6; k++) {
+                due("value(" + k + ", 3, 0), turn " + turn, x.value(k, 3, 0), above[k]);
+                due("value(" + k + ", 3, 1), turn " + turn, x.value(k, 3, 1), below[k]);
+            }
+        }
+        // Below 0, and not whole.
+        x = new CoastWatch();
+        due("value(5, 30, 0)", x.value(5, 30, 0), -70);
+        due("value(5, 30, 1)", x.value(5, 30, 1), 3);
+        // Three watched of worths that run upwards.
+        int[] up = {1, 2, 3, 50, 60, 99};
+        for (int c = 0; c < 6; c++) {
+            x.cove(c, 3, up[c]);
+        }
+        due("value(2, 7, 0)", x.value(2, 7, 0), 286073);
+        due("value(2, 7, 1)", x.value(2, 7, 1), 16963);
     }
 
     private static void chance() {
@@ -902,6 +985,15 @@ public final class PromisesTest {
         due("chance(5, 1, 10, 1)", x.chance(5, 1, 10, 1), 1);
         x.cove(5, 3, 1);
         due("chance below 0", x.chance(5, 1, 10, 0), 0);
+        int[] up = {1, 2, 3, 50, 60, 99};
+        int[] above = {0, 0, 0, 9861, 10921, 13144};
+        for (int c = 0; c < 6; c++) {
+            x.cove(c, 3, up[c]);
+        }
+        for (int c = 0; c < 6; c++) {
+            due("chance(" + c + ", 2, 7, 0)", x.chance(c, 2, 7, 0), above[c]);
+            due("chance(" + c + ", 2, 7, 1)", x.chance(c, 2, 7, 1), above[c] == 0 ? 1 : 16963);
+        }
     }
 
     private static void used() {
@@ -1070,6 +1162,17 @@ public final class PromisesTest {
         due("coins(0)", x.coins(0), 49 + 495);
         due("coins(1)", x.coins(1), 1);
         due("coins(7)", x.coins(7), 5);
+        // The first word of all is that of informer 1.
+        x = new CoastWatch();
+        guardAll(x, 1);
+        x.price(999);
+        x.law(50, 37, 0);
+        x.word(1, 1, 0);
+        loadedBoat(x, 0, 60);
+        x.nights(1);
+        due("coins(0)", x.coins(0), 29970);
+        due("coins(3)", x.coins(3), 22177);
+        due("coins(1)", x.coins(1), 59940 - 29970 - 22177);
     }
 
     private static void count() {
