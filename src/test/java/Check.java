@@ -22,6 +22,10 @@ final class Check {
         }
     }
 
+    int asked() {
+        return asked;
+    }
+
     private void tell(String text) {
         wrong++;
         if (wrong <= 50) {
