@@ -398,6 +398,8 @@ public final class AnswersTest {
         lines(30, boat, "got away once, went home twice", "stand 0 1", "stand 1 1", "boat 0 9 10 15", "load 0 3",
             "nights 1 = 0", "boatOf 0 1 = 1", "boatOf 0 2 = 0", "cove 1 3 99", "nights 1 = 0", "boatOf 0 1 = 1",
             "boatOf 0 2 = 1", "nights 1 = 0", "boatOf 0 2 = 2", "boatOf 0 0 = 3");
+        lines(30, boat, "went home also where the only WATCHER is bribed", "stand 0 1", "bribe 0 true",
+            "boat 0 9 0 15", "load 0 3", "nights 1 = 0", "boatOf 0 1 = 0", "boatOf 0 2 = 1", "boatOf 0 3 = 0");
         lines(30, boat, "neither, if it is SEIZED, hidden, or stays", "stand 0 1", "hide 1 9 1", "boat 0 9 0 15",
             "load 0 3", "nights 1 = 1", "load 0 3", "nights 1 = 1", "nights 9 = 0", "boat 0 9 0 0", "load 1 1",
             "nights 1 = 0", "boatOf 0 1 = 0", "boatOf 0 2 = 0", "boatOf 1 1 = 0", "boatOf 1 2 = 0");

@@ -7,6 +7,7 @@ import java.nio.charset.StandardCharsets;
 import java.nio.file.Files;
 import java.nio.file.Path;
 import java.util.Arrays;
+import java.util.List;
 import java.util.TreeSet;
 import java.util.regex.Matcher;
 import java.util.regex.Pattern;
@@ -23,10 +24,14 @@ public final class FaceTest {
         "int landed(int,int)", "int lotOf(int,int)", "int boatOf(int,int)", "int hideOf(int,int)",
         "int watched(int)", "int coins(int)", "int count(int)",
     };
+    private static final Path SOURCE = Path.of("src/main/java/CoastWatch.java");
+    /** "Methods stay short (some sixty lines)". */
+    private static final int LINES = 60;
     private static final Check CHECK = new Check();
 
     public static void main(String[] args) throws IOException {
         face();
+        document();
         inside();
         source();
         CHECK.finish();
@@ -35,7 +40,8 @@ public final class FaceTest {
     private static void face() {
         CHECK.begin("face");
         Class<?> type = CoastWatch.class;
-        CHECK.holds("public and final", Modifier.isPublic(type.getModifiers()) && Modifier.isFinal(type.getModifiers()));
+        int kind = type.getModifiers();
+        CHECK.holds("public and final", Modifier.isPublic(kind) && Modifier.isFinal(kind));
         Constructor<?>[] made = type.getDeclaredConstructors();
         CHECK.holds("one public constructor without arguments",
                 made.length == 1 && Modifier.isPublic(made[0].getModifiers()) && made[0].getParameterCount() == 0);
@@ -56,6 +62,25 @@ public final class FaceTest {
         }
         for (Field field : type.getDeclaredFields()) {
             CHECK.holds(field + " is private", Modifier.isPrivate(field.getModifiers()));
+        }
+    }
+
+    /** The face above is the document's, with its arguments' names, and each promise tells its own call. */
+    private static void document() throws IOException {
+        CHECK.begin("document");
+        List<String> face = Document.face();
+        CHECK.holds("as many methods", face.size() == FACE.length);
+        String text = Files.readString(SOURCE, StandardCharsets.UTF_8);
+        CHECK.holds("the class", text.contains("\npublic final class CoastWatch {\n"));
+        CHECK.holds("the constructor", text.contains("\n    public CoastWatch() {\n"));
+        CHECK.holds("promise 1", Document.words("Promise 1").startsWith("`CoastWatch()`: "));
+        for (int i = 0; i < face.size() && i < FACE.length; i++) {
+            String told = face.get(i).replaceFirst("^public ", "").replaceFirst(";$", "");
+            String types = told.replaceAll("(int|boolean) \\w+([,)])", "$1$2").replace(", ", ",");
+            CHECK.holds(told + " is " + FACE[i], types.equals(FACE[i]));
+            CHECK.holds(told + " in the class", text.contains("\n    public " + told + " {\n"));
+            CHECK.holds(told + " in promise " + (i + 2),
+                Document.words("Promise " + (i + 2)).startsWith("`" + told + "`: "));
         }
     }
 
@@ -97,7 +122,7 @@ public final class FaceTest {
 
     private static void source() throws IOException {
         CHECK.begin("source");
-        String text = Files.readString(Path.of("src/main/java/CoastWatch.java"), StandardCharsets.UTF_8);
+        String text = Files.readString(SOURCE, StandardCharsets.UTF_8);
         CHECK.holds("plain characters alone", text.chars().allMatch(sign -> sign < 127));
         String code = text.replaceAll("(?s)/\\*.*?\\*/", " ").replaceAll("//[^\n]*", " ");
         for (String word : new String[] {"package", "import", "throw", "throws", "try", "catch", "synchronized",
@@ -112,8 +137,26 @@ public final class FaceTest {
             boolean known = Arrays.asList("min", "max", "arraycopy").contains(library.group(1));
             CHECK.holds(library.group() + " is allowed", known);
         }
+        methodsAreShort(text.split("\n"));
         for (String line : text.split("\n")) {
             CHECK.holds("a line of 120 characters at most: " + line, line.length() <= 120);
         }
+    }
+
+    /** A method ends with the first line that is as far in as the one that it begins with. */
+    private static void methodsAreShort(String[] lines) {
+        int methods = 0;
+        for (int i = 0; i < lines.length; i++) {
+            Matcher head = Pattern.compile("( +)\\S.*\\) \\{").matcher(lines[i]);
+            if (head.matches() && !lines[i].trim().matches("(if|for|while|switch|\\}) ?.*")) {
+                methods++;
+                int end = i;
+                while (end < lines.length && !lines[end].equals(head.group(1) + "}")) {
+                    end++;
+                }
+                CHECK.holds(lines[i].trim() + " of " + LINES + " lines at most", end - i < LINES);
+            }
+        }
+        CHECK.holds("methods that are looked at: " + methods, methods > FACE.length);
     }
 }

@@ -28,24 +28,36 @@ public final class ModelTest {
         check.holds("every call of the face is drawn", FACE.length == 33);
         for (int run = 0; run < RUNS; run++) {
             check.begin("run " + run);
-            run(check, run % 3);
+            run(check, run % 4);
         }
         check.finish();
     }
 
-    /** Style 0: usual arguments and a few at the edges; 1: more at the edges; 2: long spans of nights. */
+    /** What a run of style 3 begins with: BOATS that always go, a PRICE and a LAW that leaves something to all. */
+    private static final String[] BUSY = {"boat 0 60 5 15", "boat 3 60 15 15", "boat 0 60 25 15", "boat 0 9 45 15",
+        "price 97", "law 31 23 0", "hide 0 200 3", "hide 1 90 2", "hide 0 50 5", "hide 2 200 1", "share 1 3",
+        "share 0 2"};
+
+    /**
+     * Style 0: usual arguments and a few at the edges; 1: more at the edges; 2: long spans of nights; 3: busy coves,
+     * where INFORMERS tell of the next night at the first COVES.
+     */
     private static void run(Check check, int style) throws ReflectiveOperationException {
         CoastWatch x = new CoastWatch();
         Model model = new Model();
         for (int call = 0; call < CALLS; call++) {
-            String[] words = drawnRow().split(" ");
+            boolean begins = style == 3 && call < BUSY.length;
+            String[] words = (begins ? "1 " + BUSY[call].replaceAll(" (\\d+)", " $1:$1") : drawnRow()).split(" ");
             Method asked = named(CoastWatch.class, words[1]);
             Object[] arguments = new Object[words.length - 2];
             StringBuilder told = new StringBuilder(call + ": " + words[1]);
             for (int i = 0; i < arguments.length; i++) {
-                arguments[i] = argument(words[i + 2], model.count(0), style == 1 ? 6 : 25);
+                arguments[i] = argument(words[i + 2], model.count(0), begins ? Integer.MAX_VALUE : style == 1 ? 6 : 25);
                 if (style == 2 && words[1].equals("nights") && below(4) == 0) {
                     arguments[i] = below(80);
+                }
+                if (style == 3 && words[1].equals("word") && i > 0) {
+                    arguments[i] = i == 1 ? model.count(0) + 1 : below(2);
                 }
                 told.append(' ').append(arguments[i]);
             }

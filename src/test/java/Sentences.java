@@ -1,6 +1,3 @@
-import java.io.IOException;
-import java.nio.file.Files;
-import java.nio.file.Path;
 import java.util.ArrayList;
 import java.util.HashMap;
 import java.util.HashSet;
@@ -10,35 +7,26 @@ import java.util.Set;
 
 /**
  * Tests with names of their own. A name tells the part of DOC.md ("Terms", "Promise 7"), the words there
- * that name the boundary, and which side of it is looked at; the words must stand in that part. With
+ * that the test is of, and which side of them is looked at; the words must stand in that part. With
  * -Dnames=true all names are told.
  */
 final class Sentences {
     static final int PROMISES = 34;
-    private static final Path DOCUMENT = Path.of("../shared/DOC.md");
+    private static final Map<String, List<String>> QUOTED = new HashMap<>();
+    private static boolean namesAlone = false;
 
     final Check check = new Check();
-    private final Map<String, String> parts = new HashMap<>();
     private final Set<String> names = new HashSet<>();
     private final Set<String> tested = new HashSet<>();
 
-    Sentences() {
-        if (!Files.isReadable(DOCUMENT)) {
-            System.out.println("no " + DOCUMENT + ": the words of the names are not looked up");
-            return;
-        }
-        try {
-            for (String part : Files.readString(DOCUMENT).split("\n## ")) {
-                String title = part.lines().findFirst().orElse("");
-                parts.put(title.replaceAll(":.*", ""), plain(part));
-            }
-        } catch (IOException broken) {
-            throw new IllegalStateException(broken);
-        }
+    /** From here on tests are named and not run. */
+    static void namesAlone() {
+        namesAlone = true;
     }
 
-    private static String plain(String text) {
-        return text.replaceAll("```(text)?", " ").replaceAll("\\s+", " ");
+    /** The words of that part that the tests named so far are of, once for each test. */
+    static List<String> quotedOf(String part) {
+        return QUOTED.getOrDefault(part, List.of());
     }
 
     Run run() {
@@ -46,14 +34,18 @@ final class Sentences {
     }
 
     void test(String part, String words, String side, Runnable test) {
+        QUOTED.computeIfAbsent(part, none -> new ArrayList<>()).add(words);
+        tested.add(part);
+        if (namesAlone) {
+            return;
+        }
         String name = part + ": \"" + words + "\", " + side;
         if (Boolean.getBoolean("names")) {
             System.out.println(name);
         }
         check.begin(name);
         check.holds("a name of its own", names.add(name));
-        check.holds("the document says so", parts.isEmpty() || parts.getOrDefault(part, "").contains(words));
-        tested.add(part);
+        check.holds("the document says so", Document.says(part, words));
         int before = check.asked();
         try {
             test.run();
@@ -93,6 +85,9 @@ final class Sentences {
     }
 
     void finish() {
+        if (namesAlone) {
+            return;
+        }
         System.out.print(names.size() + " tests, ");
         check.finish();
     }

@@ -176,7 +176,8 @@ public final class TermsOfLawTest {
             run.lines("word 4 1 0 = 59", "word 4 1 0 = -6", "nights 1 = 1", "count 5 = 1", "weight 4 0 = 2",
                 "weight 4 1 = 3", "belief 0 1 0 = 2", "hideOf 0 1 = 10");
         });
-        String right = "RIGHT if a BOAT's goods came to that COVE that NIGHT (SEIZED, or into a HIDE), else WRONG";
+        String right = "PROVED: RIGHT if a BOAT's goods came to that COVE that NIGHT (SEIZED, or into a HIDE), else "
+            + "WRONG";
         lines(right, "SEIZED", "stand 0 1", "boat 0 9 0 15", "load 0 1", "word 0 1 0", "nights 1 = 1", "count 5 = 1",
             "count 6 = 0");
         lines(right, "into a HIDE", "hide 0 9 1", "boat 0 9 0 15", "load 0 1", "word 0 1 0", "nights 1 = 1",
@@ -206,8 +207,8 @@ public final class TermsOfLawTest {
             "weight 2 1 = 62"));
         test(weight, "60 RIGHT", () -> sixty(true).lines("count 5 = 60", "count 6 = 0", "weight 2 0 = 61",
             "weight 2 1 = 62", "hideOf 0 1 = 600", "hideOf 1 1 = 600"));
-        String belief = "1 less the product of (1 less WEIGHT) of all INFORMERS with a WORD of it (as WEIGHTS are "
-            + "now); 0 without";
+        String belief = "BELIEF in a COVE for a NIGHT: 1 less the product of (1 less WEIGHT) of all INFORMERS with a "
+            + "WORD of it (as WEIGHTS are now); 0 without";
         lines(belief, "without a WORD", "word 0 5 1", "belief 1 4 0 = 0", "belief 1 4 1 = 1", "belief 1 6 0 = 0",
             "belief 0 5 0 = 0", "belief 2 5 0 = 0", "belief 1 5 0 = 1", "belief 1 5 1 = 2", "belief 0 0 0 = 0",
             "belief 5 1000 1 = 1");
@@ -240,7 +241,8 @@ public final class TermsOfLawTest {
     }
 
     private static void guesses() {
-        String words = "a WORD that is PROVED RIGHT adds 10 to the GUESS of each HIDE of that COVE (to 999 at most)";
+        String words = "GUESSES: a WORD that is PROVED RIGHT adds 10 to the GUESS of each HIDE of that COVE (to 999 at "
+            + "most)";
         // 60 WORDS make 600, so no run of calls comes to 999.
         test(words, "all the 60 WORDS that there may be: 600", () -> sixty(true).lines("hideOf 0 1 = 600",
             "hideOf 1 1 = 600", "best 100 = 3", "best 20 = 1"));
@@ -386,7 +388,7 @@ public final class TermsOfLawTest {
     }
 
     private static void spans() {
-        String seasons = "of SEASONS 0 .. 33 (30 NIGHTS each: NIGHT by 30)";
+        String seasons = "SPANS: of SEASONS 0 .. 33 (30 NIGHTS each: NIGHT by 30)";
         lines(seasons, "SEASON 0 and 33 are there, -1 and 34 are not", "used 0 1 1 1 = 1", "used 33 1 1 1 = 1",
             "used -1 1 1 1 = -1", "used 34 1 1 1 = -1", "landed 0 0 = 0", "landed 33 0 = 0", "landed -1 0 = -1",
             "landed 34 0 = -1");
@@ -412,8 +414,8 @@ public final class TermsOfLawTest {
             "landed 5 0 = 1");
         lines(used, "-1 and 100001 are not", "used 5 -1 0 0 = -4", "used 5 -1 -1 0 = -4", "used 5 0 0 -1 = -4",
             "used 5 0 100001 0 = -6", "used 5 100001 100001 0 = -6", "used 5 0 0 100001 = -6");
-        String landed = "USED less what came by law, less casks that lay SEIZED of that SEASON's LOTS (they were not "
-            + "used), not below 0";
+        String landed = "LANDED, least and most: USED less what came by law, less casks that lay SEIZED of that "
+            + "SEASON's LOTS (they were not used), not below 0";
         String[] seized = {"stand 0 1", "boat 0 9 0 15", "load 0 4", "nights 1 = 1"};
         lines(landed, "1, 0 and not -1", Sentences.both(seized, "used 0 9 9 4 = 1", "landed 0 0 = 1",
             "used 0 8 9 4 = 1", "landed 0 0 = 0", "landed 0 1 = 1", "used 0 7 8 4 = 1", "landed 0 0 = 0",

@@ -51,7 +51,7 @@ public final class TermsOfNightTest {
                 }
                 run.due("count 0", Run.CALLS - 1);
             });
-        String light = "with k being n modulo 30, the amount of 15 less k (so 15 at 0, 0 at 15)";
+        String light = "LIGHT of a NIGHT n: with k being n modulo 30, the amount of 15 less k (so 15 at 0, 0 at 15).";
         int[][] lights = {{0, 15}, {1, 14}, {14, 1}, {15, 0}, {16, 1}, {29, 14}, {30, 15}, {31, 14}, {45, 0}, {990, 15},
             {999, 6}, {1000, 5}};
         for (int[] row : lights) {
@@ -150,11 +150,11 @@ public final class TermsOfNightTest {
     }
 
     private static void draws() {
-        String seed = "SEED (an int; 1 at first)";
+        String seed = "DRAWS: SEED (an int; 1 at first)";
         lines(seed, "1 at first", "count 9 = 1", "seed 0 = 1");
         lines(seed, "its least and its greatest", "seed -2147483648 = 1", "seed 2147483647 = -2147483648",
             "seed 0 = 2147483647");
-        String round = "SEED becomes SEED times 1103515245, and 12345 (an int that goes round)";
+        String round = "a DRAW below n: SEED becomes SEED times 1103515245, and 12345 (an int that goes round)";
         int[][] rows = {{1, 1103527590}, {0, 12345}, {-1, -1103502900}, {Integer.MAX_VALUE, 1043980748},
             {Integer.MIN_VALUE, -2147471303}, {1103527590, -1770082073}};
         for (int[] row : rows) {
